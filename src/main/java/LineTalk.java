@@ -565,9 +565,9 @@ public final class LineTalk {
         private final Packet came = receiver.gathered;
         private final Packet kept = new Packet(MOST_GATHERED);
         private final Packet asked = new Packet(LONGEST_REQUEST);
-        // Made ahead of the event, whose actions may send a request before it: so it has a row of its own.
+        // It is made ahead of the event, whose actions may send a request first: so it has a row of its own.
         private final Packet answer = new Packet(MOST_GATHERED);
-        private final Packet other = new Packet(MOST_GATHERED);
+        private final Packet draft = new Packet(MOST_GATHERED);
         private final int[] counts = new int[COUNTS];
         private int size = USUAL_SIZE;
         private int least = SMALLEST_SIZE;
@@ -589,18 +589,18 @@ public final class LineTalk {
         }
 
         void sendData(int n, int v) {
-            other.used = 0;
-            other.add(DATA);
+            draft.used = 0;
+            draft.add(DATA);
             for (int i = 0; i < n; i++) {
-                other.add(v + i);
+                draft.add(v + i);
             }
-            transmit(other);
+            transmit(draft);
         }
 
         void sendEcho() {
-            other.start(ECHO, nextId());
-            other.addNumber(number);
-            transmit(other);
+            draft.start(ECHO, nextId());
+            draft.addNumber(number);
+            transmit(draft);
         }
 
         private void transmit(Packet packet) {
@@ -785,12 +785,13 @@ public final class LineTalk {
                 if (c == '|') {
                     column++;
                 } else if (column == was) {
-                    act(c);
+                    change(c);
+                    speak(c);
                 }
             }
         }
 
-        private void act(char action) {
+        private void change(int action) {
             switch (action) {
                 case 'i':
                     triesLeft = FULL_COUNT;
@@ -798,34 +799,6 @@ public final class LineTalk {
                 case 'z':
                     triesLeft = 0;
                     timer = FULL_TIMER;
-                    break;
-                case 'q':
-                    composeRequest();
-                    transmit(asked);
-                    spendTry();
-                    break;
-                case 'e':
-                    other.start(END, nextId());
-                    transmit(other);
-                    spendTry();
-                    break;
-                case 'a':
-                case 'n':
-                    transmit(answer);
-                    break;
-                case 't':
-                    other.start(ENDED, came.id());
-                    transmit(other);
-                    break;
-                case 'c':
-                    other.start(UNKNOWN, nextId());
-                    other.add(came.code());
-                    transmit(other);
-                    break;
-                case 'r':
-                    other.start(REPLY, came.id());
-                    other.addNumber(number);
-                    transmit(other);
                     break;
                 case 'u':
                     counts[UPS]++;
@@ -839,6 +812,41 @@ public final class LineTalk {
                     if (action >= '0' && action <= '9') {
                         state = action - '0';
                     }
+                    break;
+            }
+        }
+
+        private void speak(int action) {
+            switch (action) {
+                case 'q':
+                    composeRequest();
+                    transmit(asked);
+                    spendTry();
+                    break;
+                case 'e':
+                    draft.start(END, nextId());
+                    transmit(draft);
+                    spendTry();
+                    break;
+                case 'a':
+                case 'n':
+                    transmit(answer);
+                    break;
+                case 't':
+                    draft.start(ENDED, came.id());
+                    transmit(draft);
+                    break;
+                case 'c':
+                    draft.start(UNKNOWN, nextId());
+                    draft.add(came.code());
+                    transmit(draft);
+                    break;
+                case 'r':
+                    draft.start(REPLY, came.id());
+                    draft.addNumber(number);
+                    transmit(draft);
+                    break;
+                default:
                     break;
             }
         }

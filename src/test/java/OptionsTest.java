@@ -189,6 +189,9 @@ public final class OptionsTest {
         nak(Probe.list(1, 3, 1, 5, 0, 0, 0, 0), 300, 0);
         nak(Probe.list(1, 3, 1, 5, 255, 254, 253, 252), 300, 0xFFFEFDFC);
         nak(Probe.list(1, 3, 1, 9, 9, 5, 0, 0, 1, 0, 1, 2, 0, 4, 4), 512, 256);
+        for (int b = 0; b < 256; b++) {
+            nak(Probe.list(1, 3, 1, 7, b), 300, OWN);
+        }
     }
 
     private static void nak(List<Integer> packet, int size, int number) {
@@ -208,7 +211,10 @@ public final class OptionsTest {
         reject(Probe.list(1, 4, 1, 1, 9, 9), 2, Probe.list(1, 1, 2, 5, 18, 52, 86, 120));
         reject(Probe.list(1, 4, 1, 5, 9, 9, 9, 9), 1, Probe.list(1, 1, 2, 1, 1, 44));
         reject(Probe.list(1, 4, 1, 5, 9, 9, 9, 9, 7, 7, 1, 9, 9), 0, Probe.list(1, 1, 2));
-        reject(Probe.list(1, 4, 1, 7, 7), 3, Probe.list(1, 1, 2, 1, 1, 44, 5, 18, 52, 86, 120));
+        // Whatever the check is behind the options, even the type of one, it is none of them.
+        for (int b = 0; b < 256; b++) {
+            reject(Probe.list(1, 4, 1, 7, b), 3, Probe.list(1, 1, 2, 1, 1, 44, 5, 18, 52, 86, 120));
+        }
     }
 
     private static void reject(List<Integer> packet, int asks, List<Integer> request) {

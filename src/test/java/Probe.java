@@ -76,10 +76,14 @@ final class Probe {
         return all;
     }
 
-    static List<Integer> row(int n, int b) {
+    static int[] times(int n, int b) {
         int[] bytes = new int[n];
         Arrays.fill(bytes, b);
-        return list(bytes);
+        return bytes;
+    }
+
+    static List<Integer> row(int n, int b) {
+        return list(times(n, b));
     }
 
     static List<Integer> join(List<Integer> front, int... back) {

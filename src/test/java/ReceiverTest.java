@@ -63,8 +63,8 @@ public final class ReceiverTest {
         bad("a check alone", Probe.frame(Probe.list()));
         bad("one byte", Probe.list(126, 0, 126));
         good("5 bytes", Probe.frame(Probe.list(2, 7, 7)));
-        good("40 bytes", Probe.frame(Probe.join(Probe.list(2), Probe.row(37, 125).stream().mapToInt(b -> b).toArray())));
-        bad("41 bytes", Probe.frame(Probe.join(Probe.list(2), Probe.row(38, 125).stream().mapToInt(b -> b).toArray())));
+        good("40 bytes", Probe.frame(Probe.join(Probe.list(2), Probe.times(37, 125))));
+        bad("41 bytes", Probe.frame(Probe.join(Probe.list(2), Probe.times(38, 125))));
         bad("the check's bytes the other way round", swapped());
     }
 
@@ -192,7 +192,7 @@ public final class ReceiverTest {
                         : code == 9 || code == 10 ? n == 4
                         : code < 1 || code > 4 || n == 0 || n == 2;
                 // Types 32, 32, .. come twice as soon as there are four bytes.
-                List<Integer> frame = Probe.frame(Probe.join(Probe.list(1, code, 1), Probe.row(n, 32).stream().mapToInt(b -> b).toArray()));
+                List<Integer> frame = Probe.frame(Probe.join(Probe.list(1, code, 1), Probe.times(n, 32)));
                 if (fits) {
                     good("code " + code + " with " + n, frame);
                 } else {

@@ -54,6 +54,10 @@ public final class TableTest {
             }
             x.lose(end, 300);
         }
+        if (x.about(end, Probe.TIMER) > 1) {
+            // So that a timer that starts anew differs from one that goes on.
+            x.tick(1);
+        }
         this.state = x.about(end, Probe.STATE);
         id = x.about(end, Probe.ID);
         count = x.about(end, Probe.COUNT);
@@ -78,7 +82,11 @@ public final class TableTest {
     }
 
     private static void countFallsToNoneByEnd() {
-        LineTalk x = Probe.in(0, 9);
+        LineTalk x = Probe.in(0, 6);
+        x.tick(2);
+        Probe.tell(x, 1, 1, Probe.ACK, 1);
+        Probe.tell(x, 1, 1, Probe.REQUEST, 1);
+        Probe.due("timer ahead of an END", 1, x.about(0, Probe.TIMER));
         Probe.tell(x, 1, 1, Probe.END, 3);
         Probe.due("count behind an END", 0, x.about(0, Probe.COUNT));
         Probe.due("timer behind an END", 3, x.about(0, Probe.TIMER));
