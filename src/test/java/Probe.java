@@ -23,19 +23,6 @@ final class Probe {
         }
     }
 
-    /** The call throws just this exception and leaves all that can be seen of the object as it was. */
-    static void refused(LineTalk x, String what, Class<? extends RuntimeException> due, Runnable call) {
-        String before = sight(x);
-        String got = "nothing";
-        try {
-            call.run();
-        } catch (RuntimeException e) {
-            got = e.getClass().getSimpleName();
-        }
-        due(what + " throws", due.getSimpleName(), got);
-        due(what + " changes nothing", before, sight(x));
-    }
-
     static void end() {
         System.out.println(asked + " answers looked at, " + wrong + " not as due");
         if (wrong != 0 || asked == 0) {
@@ -62,7 +49,9 @@ final class Probe {
 
     static List<Integer> line(LineTalk x, int line) {
         List<Integer> bytes = new ArrayList<>();
-        for (int i = 0; i < x.about(line, ON_LINE); i++) {
+        // Asked once, since an object is promised for 512 calls alone.
+        int used = x.about(line, ON_LINE);
+        for (int i = 0; i < used; i++) {
             bytes.add(x.look(line, i));
         }
         return bytes;

@@ -1,12 +1,17 @@
-/** Long runs of calls drawn from a fixed row of numbers: no call throws but where it must, and what must always hold holds. */
+/**
+ * Runs of calls drawn from a fixed row of numbers, each as long as an object is promised for: no call throws but where
+ * it must, and what must always hold holds.
+ */
 public final class RandomRunsTest {
-    private static final int RUNS = 400;
-    private static final int CALLS = 512;
+    private static final int RUNS = 2000;
+    private static final int CALLS = 480;
     private static final int[] ODD_VALUES = {-1, 2, 256, 301, Integer.MAX_VALUE, Integer.MIN_VALUE};
 
     private final LineTalk x = new LineTalk();
     private final boolean[] loops = new boolean[2];
     private long seed;
+    private int spent = 0;
+    private int good = 0;
     private String call = "new LineTalk()";
 
     private RandomRunsTest(int run) {
@@ -17,13 +22,14 @@ public final class RandomRunsTest {
         int opened = 0;
         for (int run = 0; run < RUNS; run++) {
             RandomRunsTest test = new RandomRunsTest(run);
-            for (int i = 0; i < CALLS; i++) {
+            while (test.spent < CALLS) {
                 test.step();
-                test.holds();
+                test.within(test.draw(2), test.draw(9));
             }
+            test.sums();
             opened += test.x.count(0, Probe.UPS) + test.x.count(1, Probe.UPS);
         }
-        Probe.due("the runs are worth something", true, opened > RUNS);
+        Probe.due("the runs are worth something", true, opened > RUNS / 2);
         Probe.end();
     }
 
@@ -44,24 +50,19 @@ public final class RandomRunsTest {
         int line = end();
         int n = value(300);
         int b = value(256);
-        int kind = draw(20);
-        String before = draw(8) == 0 ? Probe.sight(x) : "";
-        String threw = "";
+        boolean threw = false;
+        spent++;
         try {
-            doCall(kind, line, n, b);
+            doCall(draw(20), line, n, b);
         } catch (IndexOutOfBoundsException e) {
-            threw = "I";
-        } catch (IllegalArgumentException e) {
-            threw = "A";
-        } catch (IllegalStateException e) {
-            threw = "S";
+            threw = true;
+        } catch (IllegalArgumentException | IllegalStateException e) {
+            // Whether these are due is looked at in RefusedTest; here no other one may come.
+            threw = false;
         }
         boolean noEnd = line != 0 && line != 1 && !call.startsWith("tick");
-        if (noEnd != threw.equals("I") && !call.startsWith("look") && !call.startsWith("damage")) {
-            Probe.due(call + " throws IndexOutOfBoundsException", noEnd, threw.equals("I"));
-        }
-        if (!threw.isEmpty() && !before.isEmpty()) {
-            Probe.due(call + " that throws changes nothing", before, Probe.sight(x));
+        if (noEnd != threw && !call.startsWith("look") && !call.startsWith("damage")) {
+            Probe.due(call + " throws IndexOutOfBoundsException", noEnd, threw);
         }
     }
 
@@ -81,7 +82,7 @@ public final class RandomRunsTest {
             case 11: call = "data" + with; x.data(line, n); break;
             case 12: call = "look" + with; x.look(line, n); break;
             case 13: call = "tell" + with; tellSome(line, n, b); break;
-            default: call = "pass" + with; passSome(line, n); break;
+            default: call = "pass" + with; good += x.pass(line, n); break;
         }
     }
 
@@ -94,34 +95,39 @@ public final class RandomRunsTest {
     /** A packet without contents, mostly with an id that may make it right. */
     private void tellSome(int line, int n, int b) {
         int id = draw(3) == 0 ? b & 255 : x.about(1 - (line & 1), Probe.ID);
+        spent += 2;
         if (x.about(line, Probe.ON_LINE) < 250) {
             Probe.put(x, line, Probe.frame(Probe.list(1, Math.floorMod(n, 12), id)));
+            spent += 9;
         }
     }
 
-    private void passSome(int line, int n) {
-        int before = x.count(0, Probe.GOOD) + x.count(1, Probe.GOOD);
-        int good = x.pass(line, n);
-        Probe.due(call, x.count(0, Probe.GOOD) + x.count(1, Probe.GOOD) - before, good);
+    private void within(int end, int what) {
+        spent += what == Probe.TIMER ? 2 : 1;
+        int got = x.about(end, what);
+        switch (what) {
+            case Probe.STATE: between("state", got, 0, 9); break;
+            case Probe.SIZE: between("size", got, 64, 1500); break;
+            case Probe.ID: between("id", got, 0, 255); break;
+            case Probe.COUNT: between("count", got, 0, 5); break;
+            case Probe.TIMER: timerIsWithin(got, x.about(end, Probe.STATE)); break;
+            case Probe.ASKS: between("asks", got, 0, 3); break;
+            case Probe.ON_LINE: between("on the line", got, 0, 300); break;
+            case Probe.GATHERED: between("gathered", got, 0, 40); break;
+            default: break;
+        }
     }
 
-    private void holds() {
-        int bad = 0;
-        int all = 0;
-        for (int end = 0; end < 2; end++) {
-            int state = x.about(end, Probe.STATE);
-            between("state", state, 0, 9);
-            between("size", x.about(end, Probe.SIZE), 64, 1500);
-            between("id", x.about(end, Probe.ID), 0, 255);
-            between("count", x.about(end, Probe.COUNT), 0, 5);
-            between("timer", x.about(end, Probe.TIMER), state >= 4 && state <= 8 ? 1 : 0, 3);
-            between("asks", x.about(end, Probe.ASKS), 0, 3);
-            between("on the line", x.about(end, Probe.ON_LINE), 0, 300);
-            between("gathered", x.about(end, Probe.GATHERED), 0, 40);
-            bad += x.count(end, Probe.BAD);
-            all += x.count(end, Probe.BAD) + x.count(end, Probe.GOOD);
-        }
-        Probe.due("noise behind " + call, all == 0 ? 0f : (float) bad / all, x.noise());
+    /** Where the timer runs it is never 0 behind a call, since at 0 it was over. */
+    private void timerIsWithin(int timer, int state) {
+        between("timer in state " + state, timer, state >= 4 && state <= 8 ? 1 : 0, 3);
+    }
+
+    private void sums() {
+        int goods = x.count(0, Probe.GOOD) + x.count(1, Probe.GOOD);
+        int bad = x.count(0, Probe.BAD) + x.count(1, Probe.BAD);
+        Probe.due("what pass answered in all", goods, good);
+        Probe.due("noise at the end", goods + bad == 0 ? 0f : (float) bad / (goods + bad), x.noise());
     }
 
     private void between(String what, int got, int least, int most) {

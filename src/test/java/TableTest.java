@@ -77,8 +77,75 @@ public final class TableTest {
                 }
             }
         }
+        countFallsToNoneByTicks();
         countFallsToNoneByEnd();
+        unknownOneToSix();
+        nothingBelowStateTwo();
         Probe.end();
+    }
+
+    /** "at 0 the event is over, more if the count is above 0, else over, none": with the count 1 it is more still. */
+    private static void countFallsToNoneByTicks() {
+        int[] states = {4, 5, 6, 8};
+        int[] behind = {2, 3, 3, 3};
+        for (int i = 0; i < states.length; i++) {
+            LineTalk x = Probe.in(0, states[i]);
+            int code = states[i] < 6 ? Probe.END : Probe.REQUEST;
+            for (int count = 4; count >= 1; count--) {
+                String what = "over with the count " + count + " in state " + states[i];
+                Probe.due(what + ": count", count, x.about(0, Probe.COUNT));
+                int id = x.about(0, Probe.ID) + 1;
+                Probe.due(what + ": two ticks", 0, x.tick(2));
+                Probe.due(what + ": the third", 1, x.tick(1));
+                Probe.due(what + ": sends", List.of(Probe.list(1, code, id)), Probe.heard(x, 0));
+                Probe.due(what + ": state", states[i], x.about(0, Probe.STATE));
+                Probe.due(what + ": timer", 3, x.about(0, Probe.TIMER));
+            }
+            String what = "over with the count 0 in state " + states[i];
+            Probe.due(what + ": count", 0, x.about(0, Probe.COUNT));
+            Probe.due(what + ": three ticks", 1, x.tick(3));
+            Probe.due(what + ": sends", List.of(), Probe.heard(x, 0));
+            Probe.due(what + ": state", behind[i], x.about(0, Probe.STATE));
+            Probe.due(what + ": timer", 0, x.about(0, Probe.TIMER));
+            Probe.due(what + ": no more ticks", 0, x.tick(20));
+            Probe.due(what + ": count behind it", 0, x.about(0, Probe.COUNT));
+        }
+    }
+
+    /** "unknown 1-6" against "unknown", by each code that can be unknown. */
+    private static void unknownOneToSix() {
+        for (int code = 0; code < 256; code++) {
+            LineTalk x = Probe.in(0, 6);
+            Probe.tell(x, 1, 1, Probe.UNKNOWN, 9, code);
+            Probe.due("state behind unknown " + code, code >= 1 && code <= 6 ? 3 : 6, x.about(0, Probe.STATE));
+        }
+    }
+
+    /** "In the states 0 and 1 all packets are nothing", "What is not bad is counted all the same". */
+    private static void nothingBelowStateTwo() {
+        int[][] packets = {{1, 1, 9}, {1, 1, 9, 1, 0, 0}, {1, 1, 9, 7, 7}, {1, 2, 9}, {1, 3, 9, 1, 1, 0, 5, 0, 0, 0, 9},
+            {1, 4, 9, 1, 0, 0, 5, 0, 0, 0, 0}, {1, 5, 9}, {1, 6, 9}, {1, 7, 9, 1}, {1, 8, 9}, {1, 9, 9, 18, 52, 86, 120},
+            {1, 10, 9, 18, 52, 86, 120}, {1, 1, 9, 5, 18, 52, 86, 120}, {2, 1, 2}};
+        for (int state = 0; state < 2; state++) {
+            LineTalk x = new LineTalk();
+            x.set(0, 300, 64, 0x12345678);
+            x.event(0, state == 0 ? Probe.CLOSE : Probe.OPEN);
+            for (int i = 0; i < packets.length; i++) {
+                String what = Probe.list(packets[i]) + " in state " + state;
+                Probe.due(what, 1, Probe.tell(x, 1, packets[i]));
+                Probe.due(what + " is counted", i + 1, x.count(0, Probe.GOOD));
+            }
+            int[] about = {state, 300, 0x12345678, 0, 0, 0, 3, 0, 0};
+            for (int what = 0; what < about.length; what++) {
+                Probe.due("about " + what + " in state " + state, about[what], x.about(0, what));
+            }
+            for (int what = 1; what <= 5; what++) {
+                Probe.due("count " + what + " in state " + state, 0, x.count(0, what));
+            }
+            Probe.due("data in state " + state, LineTalk.NONE, x.data(0, 0));
+            Probe.due("bad is bad in state " + state, 0, Probe.tell(x, 1, 3, 1, 2));
+            Probe.due("and counted in state " + state, 1, x.count(0, Probe.BAD));
+        }
     }
 
     private static void countFallsToNoneByEnd() {
