@@ -148,6 +148,7 @@ public final class TableTest {
         }
     }
 
+    /** "z it becomes 0, and the timer 3": the next time that it is over there is none more. */
     private static void countFallsToNoneByEnd() {
         LineTalk x = Probe.in(0, 6);
         x.tick(2);
