@@ -16,6 +16,8 @@ public final class CallsTest {
         passCountsWhatIsNotBad();
         passInALoop();
         markLeavesAheadOfItsAnswer();
+        answersBytesCountInTheSamePass();
+        answerComesBehindWhatWasThere();
         tickOneToTwenty();
         tickCountsEachTimerThatWasOver();
         timersThatStandStill();
@@ -213,19 +215,58 @@ public final class CallsTest {
         Probe.due("the reply waits", length, x.about(0, Probe.ON_LINE));
     }
 
-    /** A mark has come out of the line before its frame is answered, so that its place is free for the answer. */
+    /**
+     * A line holds the bytes "that are on their way", and they "come out at its end, one by one": the mark that
+     * brings a frame about is no more on its way, so its place is free for the answer (ENDED, seven bytes).
+     */
     private static void markLeavesAheadOfItsAnswer() {
+        for (int line = 0; line < 2; line++) {
+            LineTalk x = lineWithAnEndAhead(line, 293);
+            Probe.due("the mark, with seven places free behind it", 1, x.pass(line, 1));
+            Probe.due("lost", 0, x.count(line, Probe.LOST));
+            Probe.due("the line", 300, x.about(line, Probe.ON_LINE));
+            Probe.due("ahead of the answer", 7, x.look(line, 292));
+            Probe.due("the answer's code", Probe.ENDED, x.look(line, 295));
+            Probe.due("the answer's mark", 126, x.look(line, 299));
+            LineTalk y = lineWithAnEndAhead(line, 294);
+            Probe.due("the mark, with six places free behind it", 1, y.pass(line, 1));
+            Probe.due("lost", 1, y.count(line, Probe.LOST));
+            Probe.due("the line", 294, y.about(line, Probe.ON_LINE));
+            Probe.due("nothing of the answer is there", 7, y.look(line, 293));
+        }
+    }
+
+    /** A looped line whose next byte is the last mark of an END, with so many bytes behind it. */
+    private static LineTalk lineWithAnEndAhead(int line, int behind) {
         LineTalk x = new LineTalk();
-        x.event(0, Probe.UP);
+        x.event(line, Probe.UP);
+        x.loop(line, true);
+        Probe.put(x, line, Probe.frame(Probe.list(1, Probe.END, 0)));
+        x.pass(line, 6);
+        Probe.put(x, line, Probe.row(behind, 7));
+        return x;
+    }
+
+    /** "So many bytes": those of an answer that the same call has brought about count like any others. */
+    private static void answersBytesCountInTheSamePass() {
+        for (int n = 7; n <= 15; n++) {
+            LineTalk x = new LineTalk();
+            x.event(0, Probe.UP);
+            x.loop(0, true);
+            Probe.put(x, 0, Probe.frame(Probe.list(1, Probe.END, 0)));
+            Probe.due("END and ENDED by a pass of " + n, n < 14 ? 1 : 2, x.pass(0, n));
+            Probe.due("left behind a pass of " + n, Math.max(14 - n, 0), x.about(0, Probe.ON_LINE));
+        }
+    }
+
+    /** "first come first out": an answer comes out behind what was on the line ahead of it. */
+    private static void answerComesBehindWhatWasThere() {
+        LineTalk x = Probe.in(0, 9);
         x.loop(0, true);
-        List<Integer> end = Probe.frame(Probe.list(1, Probe.END, 0));
-        Probe.put(x, 0, end);
-        x.pass(0, 6);
-        Probe.put(x, 0, Probe.row(293, 7));
-        Probe.due("seven places behind the mark", 1, x.pass(0, 1));
-        Probe.due("lost", 0, x.count(0, Probe.LOST));
-        Probe.due("the line", 300, x.about(0, Probe.ON_LINE));
-        Probe.due("the answer's mark", 126, x.look(0, 299));
+        Probe.put(x, 0, Probe.frame(Probe.list(1, Probe.ECHO, 9, 0, 0, 0, 0)));
+        x.send(0, 2, 50);
+        Probe.due("ECHO alone", 1, x.pass(0, Probe.frame(Probe.list(1, Probe.ECHO, 9, 0, 0, 0, 0)).size()));
+        Probe.due("data, REPLY", List.of(Probe.list(2, 50, 51), Probe.list(1, Probe.REPLY, 9, 0, 0, 0, 0)), Probe.heard(x, 0));
     }
 
     /** Promise 5: "IllegalArgumentException: n is not 1 .. 20." */

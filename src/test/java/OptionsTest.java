@@ -25,6 +25,8 @@ public final class OptionsTest {
         nakOfWhatIsNotAsked();
         rejects();
         beforeAnyRequest();
+        rightByTheStateItCameIn();
+        latestRequestStays();
         whatIsNotRightIsBad();
         answersInStatesWithoutRequests();
         talkingToOneself();
@@ -412,16 +414,72 @@ public final class OptionsTest {
         Probe.due(packet + ": the other end asks", 3, x.about(1, Probe.ASKS));
     }
 
-    /** Ahead of the first request there is no id that could be right, 0 is none either. */
+    /**
+     * "An ACK is right if its id is that of the latest request": ahead of the first one there is none, so that no id
+     * is right, 0 (which about() tells as the latest then) no more than any other. Of the "states from 2 on" an end
+     * can be in 2 alone by then, since it asks on its way to each of the others.
+     */
     private static void beforeAnyRequest() {
-        for (int code = 2; code <= 4; code++) {
-            for (int id : new int[] {0, 1, 255}) {
-                LineTalk x = new LineTalk();
-                x.event(0, Probe.UP);
-                Probe.due("code " + code + " without a request", 0, Probe.tell(x, 1, 1, code, id));
-                Probe.due("code " + code + " without a request: bad", 1, x.count(0, Probe.BAD));
-                Probe.due("code " + code + " without a request: sends", 0, x.about(0, Probe.ON_LINE));
+        for (int end = 0; end < 2; end++) {
+            for (int code = 2; code <= 4; code++) {
+                for (int id : new int[] {0, 1, 2, 255}) {
+                    notRightWithoutRequest(end, Probe.list(1, code, id));
+                    notRightWithoutRequest(end, Probe.list(1, code, id, 1, 5, 220, 5, 0, 0, 0, 0));
+                    notRightWithoutRequest(end, Probe.list(1, code, id, 1, 1, 44, 5, 18, 52, 86, 120));
+                }
             }
+        }
+    }
+
+    private static void notRightWithoutRequest(int end, List<Integer> packet) {
+        String what = packet + " to end " + end + " ahead of its first request";
+        LineTalk x = new LineTalk();
+        x.set(end, 300, 64, OWN);
+        x.event(end, Probe.UP);
+        Probe.due(what, 0, Probe.tell(x, 1 - end, packet));
+        int[] about = {2, 300, OWN, 0, 0, 0, 3, 0, 0};
+        int[] count = {0, 1, 0, 0, 0, 0};
+        for (int i = 0; i < about.length; i++) {
+            Probe.due(what + ": about " + i, about[i], x.about(end, i));
+        }
+        for (int i = 0; i < count.length; i++) {
+            Probe.due(what + ": count " + i, count[i], x.count(end, i));
+        }
+    }
+
+    /**
+     * "in the states 0 and 1 each ACK, NAK, REJECT is right", "In the states from 2 on, what is right is looked at":
+     * the same packet is counted as good, then as bad, then, where the end has asked, by its id.
+     */
+    private static void rightByTheStateItCameIn() {
+        for (int end = 0; end < 2; end++) {
+            for (int code = 2; code <= 4; code++) {
+                String what = "code " + code + " with the id 1 to end " + end;
+                LineTalk x = new LineTalk();
+                Probe.due(what + " in state 0", 1, Probe.tell(x, 1 - end, 1, code, 1));
+                x.event(end, Probe.OPEN);
+                Probe.due(what + " in state 1", 1, Probe.tell(x, 1 - end, 1, code, 1));
+                x.event(end, Probe.CLOSE);
+                x.event(end, Probe.UP);
+                Probe.due(what + " in state 2", 0, Probe.tell(x, 1 - end, 1, code, 1));
+                x.event(end, Probe.OPEN);
+                Probe.due(what + " in state 6", 1, Probe.tell(x, 1 - end, 1, code, 1));
+                Probe.due(what + ": good", 3, x.count(end, Probe.GOOD));
+                Probe.due(what + ": bad", 1, x.count(end, Probe.BAD));
+            }
+        }
+    }
+
+    /** The latest request stays the latest while an end is down or closed, so an answer to it is right in state 2. */
+    private static void latestRequestStays() {
+        for (int code = 2; code <= 4; code++) {
+            LineTalk x = Probe.in(0, 6);
+            x.event(0, Probe.DOWN);
+            x.event(0, Probe.CLOSE);
+            x.event(0, Probe.UP);
+            Probe.due("code " + code + " with the id ahead in state 2", 0, Probe.tell(x, 1, 1, code, 0));
+            Probe.due("code " + code + " with the latest request's in state 2", 1, Probe.tell(x, 1, 1, code, 1));
+            Probe.due("its answer", List.of(Probe.list(1, Probe.ENDED, 1)), Probe.heard(x, 0));
         }
     }
 

@@ -17,6 +17,7 @@ public final class ReceiverTest {
         noByteAtAll();
         oneMarkBetweenTwo();
         bytesAheadOfTheFirstMark();
+        gatheredAheadOfTheFirstMark();
         fortyAndNoMore();
         overfullTillTheNextMark();
         overfullByAnEscapedByte();
@@ -225,14 +226,43 @@ public final class ReceiverTest {
         Probe.due("bad in all", 1, x.count(1, Probe.BAD));
     }
 
+    /**
+     * "gathers the bytes that come out of a line to it", "At 126, what was gathered is a packet if ..; if not, it is
+     * BAD": neither sentence asks for a mark ahead, so the first mark of all judges like any other.
+     */
     private static void bytesAheadOfTheFirstMark() {
         good("no mark ahead", Probe.frame(Probe.list(2, 1, 2)).subList(1, 7));
         bad("rubbish ahead", Probe.list(1, 126));
+        bad("four bytes ahead", Probe.frame(Probe.list(2, 7)).subList(1, 6));
+        List<Integer> most = Probe.frame(Probe.join(Probe.list(2), Probe.times(37, 1)));
+        good("forty bytes ahead", most.subList(1, most.size()));
+        List<Integer> over = Probe.frame(Probe.join(Probe.list(2), Probe.times(38, 1)));
+        bad("forty-one bytes ahead", over.subList(1, over.size()));
         LineTalk x = new LineTalk();
         Probe.put(x, 0, Probe.frame(Probe.list(2, 1, 2)));
         x.lose(0, 3);
         Probe.due("the rest of a frame", 0, x.pass(0, 300));
         Probe.due("the rest of a frame is bad", 1, x.count(1, Probe.BAD));
+        Probe.due("a frame behind it", 1, Probe.tell(x, 0, 2, 1, 2));
+    }
+
+    /** Bytes ahead of the first mark are gathered at once, by either end, from either line. */
+    private static void gatheredAheadOfTheFirstMark() {
+        List<Integer> frame = Probe.frame(Probe.list(2, 1, 2));
+        for (int line = 0; line < 2; line++) {
+            for (int end = 0; end < 2; end++) {
+                String what = "by line " + line + " to end " + end;
+                LineTalk x = new LineTalk();
+                x.loop(line, end == line);
+                Probe.due(what + ", without a mark", 0, Probe.feed(x, line, frame.subList(1, 6)));
+                Probe.due(what + ": gathered", 5, x.about(end, Probe.GATHERED));
+                Probe.due(what + ": bad till then", 0, x.count(end, Probe.BAD));
+                Probe.due(what + ", the mark", 1, Probe.feed(x, line, Probe.list(126)));
+                Probe.due(what + ": gathered behind the mark", 0, x.about(end, Probe.GATHERED));
+                Probe.due(what + ": good", 1, x.count(end, Probe.GOOD));
+                Probe.due(what + ": bad", 0, x.count(end, Probe.BAD));
+            }
+        }
     }
 
     /** "More than 40 bytes gathered: all till the next 126 is bad": forty are a packet, plain and escaped. */

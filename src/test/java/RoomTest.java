@@ -31,6 +31,8 @@ public final class RoomTest {
             kind("twenty with both that are escaped", end, 9, (x, e) -> x.send(e, 20, 120));
         }
         eachOfTwoFramesOnItsOwn();
+        lostRequestIsTheLatest();
+        countFallsThoughAllAreLost();
         emptyLineTakesTheLongest();
         Probe.end();
     }
@@ -84,6 +86,41 @@ public final class RoomTest {
             Probe.due("of two frames with " + free[i] + " free are lost", lost[i], x.count(0, Probe.LOST));
             Probe.due("of two frames with " + free[i] + " free there is left", left[i], 300 - x.about(0, Probe.ON_LINE));
             Probe.due("state", 8, x.about(0, Probe.STATE));
+        }
+    }
+
+    /** "q requests": a request that was lost is the latest one all the same, and what answers it is right. */
+    private static void lostRequestIsTheLatest() {
+        for (int code = Probe.ACK; code <= Probe.REJECT; code++) {
+            for (int id = 0; id <= 3; id++) {
+                LineTalk x = Probe.in(0, 6);
+                Probe.put(x, 0, Probe.row(294, 7));
+                x.tick(3);
+                Probe.due("the second request is lost", 1, x.count(0, Probe.LOST));
+                Probe.due("code " + code + " with the id " + id, id == 2 ? 1 : 0, Probe.tell(x, 1, 1, code, id));
+            }
+        }
+    }
+
+    /** "the count becomes 1 less, and the timer 3", whether or not there was room: so an end gives up in the end. */
+    private static void countFallsThoughAllAreLost() {
+        int[] states = {4, 5, 6, 8};
+        int[] behind = {2, 3, 3, 3};
+        for (int i = 0; i < states.length; i++) {
+            LineTalk x = Probe.in(0, states[i]);
+            Probe.put(x, 0, Probe.row(294, 7));
+            int id = x.about(0, Probe.ID);
+            for (int count = 3; count >= 0; count--) {
+                String what = "lost in state " + states[i] + " with " + count + " left";
+                Probe.due(what + ": over", 1, x.tick(3));
+                Probe.due(what + ": count", count, x.about(0, Probe.COUNT));
+                Probe.due(what + ": timer", 3, x.about(0, Probe.TIMER));
+                Probe.due(what + ": id", id + 4 - count, x.about(0, Probe.ID));
+                Probe.due(what + ": lost", 4 - count, x.count(0, Probe.LOST));
+            }
+            Probe.due("over, none", 1, x.tick(3));
+            Probe.due("state behind " + states[i], behind[i], x.about(0, Probe.STATE));
+            Probe.due("none is lost by that", 4, x.count(0, Probe.LOST));
         }
     }
 
